@@ -1,0 +1,174 @@
+/** Promises 15 to 17: play, easiest, played. */
+public final class PlayingTest {
+    private static final int[] UKULELE = {7, 0, 4, 9};
+
+    public static void main(String[] args) {
+        playOfOneChord();
+        playWeighsChanges();
+        playTakesTheFirstOfLikeRows();
+        playWithoutHands();
+        playRefuses();
+        easiest();
+        easiestWithout();
+        played();
+        Checks.end();
+    }
+
+    private static void playOfOneChord() {
+        ChordMover x = Checks.withSong("[C]");
+        Checks.strings(x, UKULELE);
+        Checks.due("the least strain", x.play(0), 4);
+        Checks.due("its hand", x.played(0), 0);
+        Checks.due("the bar", x.played(-1), 0);
+    }
+
+    /** The sum of a row of HANDS, from what fret() answers. */
+    private static int sumOf(ChordMover x, int bar, int[] row) {
+        int sum = 0;
+        for (int i = 0; i < row.length; i++) {
+            sum += x.fret(i, bar, row[i], -1);
+            for (int s = 0; i > 0 && s < x.count(3); s++) {
+                int one = Math.max(0, x.fret(i - 1, bar, row[i - 1], s));
+                sum += Math.abs(one - Math.max(0, x.fret(i, bar, row[i], s)));
+            }
+        }
+        return sum;
+    }
+
+    /** All rows of HANDS, in their order: the sum of the first of the least, and that row. */
+    private static int leastRow(ChordMover x, int bar, int[] best) {
+        int[] row = new int[best.length];
+        int least = -1;
+        for (boolean more = true; more;) {
+            int sum = sumOf(x, bar, row);
+            if (least < 0 || sum < least) {
+                least = sum;
+                System.arraycopy(row, 0, best, 0, row.length);
+            }
+            int i = row.length - 1;
+            while (i >= 0 && ++row[i] == x.hands(i, bar)) {
+                row[i--] = 0;
+            }
+            more = i >= 0;
+        }
+        return least;
+    }
+
+    private static void playsLikeAllRows(String song, int bar, int... pitches) {
+        ChordMover x = Checks.withSong(song);
+        Checks.strings(x, pitches);
+        int[] row = new int[x.count(0)];
+        Checks.due("sum of " + song, x.play(bar), leastRow(x, bar, row));
+        for (int i = 0; i < row.length; i++) {
+            Checks.due("hand " + i + " of " + song, x.played(i), row[i]);
+        }
+    }
+
+    private static void playWeighsChanges() {
+        playsLikeAllRows("[C][G][Am][F]", 0, UKULELE);
+        playsLikeAllRows("[Am7][D7][Gmaj7][C6]", 3, 40, 45, 50, 55, 59, 60);
+        playsLikeAllRows("[Bb/F][Ebm][Cdim][Fsus4]", 1, 40, 45, 50, 55);
+        ChordMover x = Checks.withSong("[C][F][C]");
+        Checks.strings(x, 12, 16, 19, 12);
+        int[] first = new int[3];
+        Checks.due("sum of the song", x.play(0) <= sumOf(x, 0, first) ? 1 : 0, 1);
+    }
+
+    private static void playTakesTheFirstOfLikeRows() {
+        ChordMover x = Checks.withSong("[C][C]");
+        Checks.strings(x, 0, 4, 7, 7);
+        x.play(0);
+        Checks.due("first", x.played(0), 0);
+        Checks.due("second", x.played(1), 0);
+        playsLikeAllRows("[C/E][C/E][C/E]", 2, 10, 2, 5, 10, 5);
+        playsLikeAllRows("[Caug][Eaug][G#aug]", 0, 0, 4, 8, 0, 4);
+        playsLikeAllRows("[Cdim7][Ebdim7][F#dim7]", 0, 0, 3, 6, 9, 0, 3);
+    }
+
+    private static void playWithoutHands() {
+        ChordMover x = Checks.withSong("[C][F#9/A#][G]");
+        Checks.strings(x, 0, 4, 7);
+        Checks.due("some chord has no hand", x.hands(1, 0), 0);
+        Checks.due("play then", x.play(0), -1);
+        Checks.due("nothing is played", x.played(-1), -1);
+        Checks.due("nor a chord", x.played(0), -1);
+        ChordMover y = Checks.withSong("[C]");
+        Checks.due("no strings", y.play(0), -1);
+        Checks.due("no chords", Checks.withSong("words").play(0), -1);
+        ChordMover z = Checks.withSong("[C]");
+        Checks.strings(z, 3, 7, 10);
+        Checks.due("a hand at 0", z.play(0), 12);
+        int before = z.hands(0, 7);
+        Checks.due("a hand at 7", before, 1);
+        ChordMover w = Checks.withSong("[C]");
+        Checks.strings(w, 0, 4, 7);
+        w.play(0);
+        Checks.due("no hand at 1", w.hands(0, 1), 0);
+        Checks.due("play at 1", w.play(1), -1);
+        Checks.due("what was played stays", w.played(-1), 0);
+        Checks.due("its hands too", w.played(0), 0);
+    }
+
+    private static void playRefuses() {
+        ChordMover x = Checks.withSong("[C]");
+        Checks.strings(x, UKULELE);
+        x.play(3);
+        Checks.refusesArgument("play(8)", () -> x.play(8));
+        Checks.refusesArgument("play(-1)", () -> x.play(-1));
+        Checks.due("what was played stays", x.played(-1), 3);
+        Checks.refusesArgument("play(8) without a song", () -> new ChordMover().play(8));
+    }
+
+    private static void easiest() {
+        ChordMover x = Checks.withSong("[Eb][Ab][Bb7]");
+        Checks.strings(x, UKULELE);
+        int best = -1;
+        int least = -1;
+        for (int bar = 0; bar < 8; bar++) {
+            int sum = x.play(bar);
+            if (sum >= 0 && (least < 0 || sum < least)) {
+                least = sum;
+                best = bar;
+            }
+        }
+        x.play(7);
+        Checks.due("easiest", x.easiest(), best);
+        Checks.due("it is played", x.played(-1), best);
+        int[] row = {x.played(0), x.played(1), x.played(2)};
+        Checks.due("with its hands", sumOf(x, best, row), least);
+        ChordMover y = Checks.withSong("[G]");
+        Checks.strings(y, 0, 4, 7);
+        Checks.due("all open", y.easiest(), 7);
+        ChordMover z = Checks.withSong("[Cdim7]");
+        Checks.strings(z, 0, 3, 6, 9, 0, 0);
+        Checks.due("of like bars the least", z.easiest(), 0);
+        ChordMover w = Checks.withSong("[Caug]");
+        Checks.strings(w, 10, 14, 18);
+        Checks.due("two bars up, not six", w.easiest(), 2);
+    }
+
+    private static void easiestWithout() {
+        ChordMover x = Checks.withSong("[C9/F]");
+        Checks.strings(x, 0, 4, 7);
+        Checks.due("no bar at all", x.easiest(), -1);
+        Checks.due("nothing is played", x.played(-1), -1);
+        Checks.due("no chords", Checks.withSong("words").easiest(), -1);
+    }
+
+    private static void played() {
+        ChordMover x = Checks.withSong("[C][G]");
+        Checks.due("nothing is played", x.played(0), -1);
+        Checks.strings(x, UKULELE);
+        x.play(0);
+        Checks.due("played(2)", x.played(2), -1);
+        Checks.due("played(-2)", x.played(-2), -1);
+        Checks.due("played(greatest)", x.played(Integer.MAX_VALUE), -1);
+        Checks.due("played(least)", x.played(Integer.MIN_VALUE), -1);
+        x.write();
+        x.name(0);
+        x.guess();
+        x.hands(0, 5);
+        Checks.due("other calls leave it", x.played(-1), 0);
+        Checks.due("the hand of the first", x.played(0) >= 0 ? 1 : 0, 1);
+    }
+}
