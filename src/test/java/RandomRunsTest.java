@@ -56,13 +56,14 @@ public final class RandomRunsTest {
 
     private String text() {
         StringBuilder text = new StringBuilder();
-        int parts = random.nextInt(20);
+        int parts = random.nextInt(small && random.nextInt(6) == 0 ? 140 : 20);
+        boolean faulty = random.nextInt(3) == 0;
         for (int k = 0; k < parts; k++) {
             switch (random.nextInt(6)) {
                 case 0: text.append('\n'); break;
                 case 1: text.append(' '); break;
                 case 2: text.append("la-1Z".charAt(random.nextInt(5))); break;
-                case 3: text.append(random.nextInt(8) == 0 ? WRONG[random.nextInt(WRONG.length)] : "o"); break;
+                case 3: text.append(faulty && random.nextInt(5) == 0 ? WRONG[random.nextInt(WRONG.length)] : "o"); break;
                 default: text.append('[').append(NAMES[random.nextInt(NAMES.length)]).append(']');
             }
         }
@@ -83,7 +84,8 @@ public final class RandomRunsTest {
             }
             feed(five);
         }
-        int n = random.nextInt(10) == 0 ? number(0, 100) : text.length() + mover.count(5) - (text.length() + 19) / 20 * 20;
+        int fill = (20 - text.length() % 20) % 20;
+        int n = random.nextInt(10) == 0 ? number(0, 100) : mover.count(5) - fill;
         same("song(" + text + ")", () -> mover.song(n), () -> model.song(n));
         same("fault(0)", () -> mover.fault(0), () -> model.fault(0));
         same("fault(1)", () -> mover.fault(1), () -> model.fault(1));

@@ -58,6 +58,11 @@ public final class ReadingTest {
         Checks.due("of no byte", empty.write(), 0);
         Checks.due("a whole tape", Checks.song(x, "w".repeat(1200)), 0);
         Checks.due("all of it", x.write(), 1200);
+        Checks.song(x, "[C]long [G]song\n[D]here");
+        Checks.song(x, "[A]b");
+        Checks.song(x, "[E]c");
+        Checks.due("nothing of songs ahead is left", Checks.written(x), "E\nc");
+        Checks.due("nor a chord", x.count(0), 1);
     }
 
     private static void songKeepsTheOneAheadAtAFault() {
