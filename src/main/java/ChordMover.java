@@ -338,7 +338,7 @@ public final class ChordMover {
         }
 
         static int tonesAbove(int rootTone, int kind) {
-            if (kind < 0 || kind >= MANY) {
+            if (kind < 0 || kind >= TONES.length) {
                 return 0;
             }
             int tones = TONES[kind] << rootTone;
