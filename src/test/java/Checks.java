@@ -6,9 +6,19 @@ final class Checks {
         int answer();
     }
 
+    interface CallWith {
+        int answer(int number);
+    }
+
     private static int wrong = 0;
+    private static String sentence = "";
 
     private Checks() {
+    }
+
+    /** The document's words that the checks from here on are for: a wrong answer is told with them. */
+    static void sentence(String words) {
+        sentence = words + " | ";
     }
 
     static void due(String what, int got, int want) {
@@ -40,9 +50,44 @@ final class Checks {
         due(what, outcome(call), "NoSuchElementException");
     }
 
+    /** Each number, and the ends of int, is refused with that exception, and nothing changes. */
+    private static void refusesAll(String what, String thrown, ChordMover mover, CallWith call, int[] numbers) {
+        String before = state(mover);
+        for (int k = -2; k < numbers.length; k++) {
+            int number = k >= 0 ? numbers[k] : k == -1 ? Integer.MIN_VALUE : Integer.MAX_VALUE;
+            due(what + " with " + number, outcome(() -> call.answer(number)), thrown);
+        }
+        due("all that is told behind " + what, state(mover), before);
+    }
+
+    static void refusesArguments(String what, ChordMover mover, CallWith call, int... numbers) {
+        refusesAll(what, "IllegalArgumentException", mover, call, numbers);
+    }
+
+    static void hasNoneOf(String what, ChordMover mover, CallWith call, int... numbers) {
+        refusesAll(what, "NoSuchElementException", mover, call, numbers);
+    }
+
+    /** What an object tells of itself, as text (for short songs: it has 512 calls in all). */
+    static String state(ChordMover mover) {
+        StringBuilder text = new StringBuilder();
+        for (int what = 0; what <= 5; what++) {
+            text.append(mover.count(what)).append(' ');
+        }
+        text.append("fault ").append(mover.fault(0)).append(' ').append(mover.fault(1));
+        text.append(" played ").append(mover.played(ChordMover.NONE)).append(" chords");
+        for (int i = 0; i < mover.count(0); i++) {
+            for (int what = 0; what <= 4; what++) {
+                text.append(' ').append(mover.chord(i, what));
+            }
+            text.append(" by ").append(mover.played(i)).append(" of ").append(mover.hands(i, 0));
+        }
+        return text.append(" out ").append(told(mover)).toString();
+    }
+
     static void tell(String text) {
         wrong++;
-        System.out.println(text);
+        System.out.println(sentence + text);
     }
 
     static void end() {
@@ -105,6 +150,15 @@ final class Checks {
     static String nameOf(ChordMover mover, int i) {
         due("name(" + i + ") against what is told", mover.name(i), mover.count(4));
         return told(mover);
+    }
+
+    /** Says what the HANDS of a CHORD are, like "x02210 002210". */
+    static String hands(ChordMover mover, int i, int bar) {
+        StringBuilder rows = new StringBuilder();
+        for (int j = 0; j < mover.hands(i, bar); j++) {
+            rows.append(j == 0 ? "" : " ").append(hand(mover, i, bar, j));
+        }
+        return rows.toString();
     }
 
     /** A HAND as a row like "x32010" (x for NONE). */
