@@ -12,6 +12,7 @@ public final class HandsEdgesTest {
         nothingIsPlayedBehindUnstring();
         handsOfNoneOrFewStrings();
         atMostSixHands();
+        handsOfEachChord();
         handsHaveNoChord();
         handsHaveNoBar();
         barsFromZeroToSeven();
@@ -131,6 +132,18 @@ public final class HandsEdgesTest {
         Checks.due("of five", strung("[C]", UKULELE).hands(0, 0), 5);
         Checks.due("of one", strung("[C]", 0, 4, 7).hands(0, 0), 1);
         Checks.due("of none", strung("[C]", 0, 4, 7).hands(0, 1), 0);
+    }
+
+    private static void handsOfEachChord() {
+        Checks.sentence("13 hands: of the i-th CHORD (another ROOT, BASS or KIND alone has other HANDS)");
+        ChordMover x = strung("[C/E][A/E][C][Am/E][C/E][B#/Fb]", 4, 12, 19);
+        String[] hands = {"000 075", "012 096", "879", "002", "000 075", "000 075"};
+        for (int i = 0; i < hands.length; i++) {
+            Checks.due("hands of chord " + i, Checks.hands(x, i, 0), hands[i]);
+        }
+        for (int i = hands.length - 1; i >= 0; i--) {
+            Checks.due("hands of chord " + i + " again", Checks.hands(x, i, 0), hands[i]);
+        }
     }
 
     private static void handsHaveNoChord() {

@@ -13,6 +13,7 @@ public final class PlayingEdgesTest {
         whatWasPlayedStays();
         playRefuses();
         playAtEachBar();
+        eachBarHasItsOwnRow();
         easiestIsTheLeastSum();
         easiestOfLikeOnes();
         easiestOfBarsWithHands();
@@ -85,6 +86,13 @@ public final class PlayingEdgesTest {
         ChordMover y = strung("[G7][Dm7]", 3, 4, 9, 1);
         Checks.due("1 1 and 2 0 alike", y.play(0), 50);
         Checks.due("1 1 is ahead", playedRow(y), "0: 1 1");
+        ChordMover z = strung("[Dm][F]", 2, 5, 8);
+        Checks.due("hands of F", Checks.hands(z, 1, 0), "344 704");
+        Checks.due("0 0 and 0 1 alike", z.play(0), 4 + 10 + 13);
+        Checks.due("0 0 is ahead", playedRow(z), "0: 0 0");
+        ChordMover w = strung("[F][Dm]", 2, 5, 8);
+        Checks.due("0 0 and 1 0 alike", w.play(0), 13 + 10 + 4);
+        Checks.due("0 0 is ahead", playedRow(w), "0: 0 0");
     }
 
     private static void someChordHasNoHand() {
@@ -143,6 +151,21 @@ public final class PlayingEdgesTest {
             Checks.due("play(" + bar + ")", x.play(bar), sums[bar]);
             Checks.due("its bar", x.played(-1), bars[bar]);
         }
+    }
+
+    private static void eachBarHasItsOwnRow() {
+        Checks.sentence("PLAYED at a BAR: for each CHORD one of its HANDS there");
+        ChordMover x = strung("[Dm][G]", 2, 12, 10, 6);
+        int[] sums = {33, 49, 47, 45, 38, 36, 45, 42};
+        String[] rows = {"0: 1 0", "1: 0 0", "2: 0 0", "3: 0 1", "4: 0 1", "5: 2 0", "6: 2 0", "7: 4 0"};
+        for (int k = 0; k < 16; k++) {
+            int bar = k < 8 ? k : 15 - k;
+            Checks.due("play(" + bar + ")", x.play(bar), sums[bar]);
+            Checks.due("its row", playedRow(x), rows[bar]);
+        }
+        x.play(7);
+        Checks.due("easiest", x.easiest(), 0);
+        Checks.due("its row, not that of a bar behind", playedRow(x), rows[0]);
     }
 
     private static void easiestIsTheLeastSum() {

@@ -24,31 +24,48 @@ public final class PlayingTest {
         Checks.due("the bar", x.played(-1), 0);
     }
 
-    /** The sum of a row of HANDS, from what fret() answers. */
-    private static int sumOf(ChordMover x, int bar, int[] row) {
+    /** The HANDS of the first CHORDS, each its FRETS and behind them its STRAIN. */
+    private static int[][][] handsOf(ChordMover x, int chords, int bar) {
+        int strings = x.count(3);
+        int[][][] hands = new int[chords][][];
+        for (int i = 0; i < chords; i++) {
+            hands[i] = new int[x.hands(i, bar)][strings + 1];
+            for (int j = 0; j < hands[i].length; j++) {
+                for (int s = 0; s <= strings; s++) {
+                    hands[i][j][s] = x.fret(i, bar, j, s == strings ? ChordMover.NONE : s);
+                }
+            }
+        }
+        return hands;
+    }
+
+    /** The sum of a row of HANDS; a song that is longer than the HANDS told repeats their CHORDS. */
+    private static int sumOf(int[][][] hands, int[] row) {
         int sum = 0;
         for (int i = 0; i < row.length; i++) {
-            sum += x.fret(i, bar, row[i], -1);
-            for (int s = 0; i > 0 && s < x.count(3); s++) {
-                int one = Math.max(0, x.fret(i - 1, bar, row[i - 1], s));
-                sum += Math.abs(one - Math.max(0, x.fret(i, bar, row[i], s)));
+            int[] hand = hands[i % hands.length][row[i]];
+            int strings = hand.length - 1;
+            sum += hand[strings];
+            for (int s = 0; i > 0 && s < strings; s++) {
+                int ahead = hands[(i - 1) % hands.length][row[i - 1]][s];
+                sum += Math.abs(Math.max(0, ahead) - Math.max(0, hand[s]));
             }
         }
         return sum;
     }
 
     /** All rows of HANDS, in their order: the sum of the first of the least, and that row. */
-    private static int leastRow(ChordMover x, int bar, int[] best) {
+    private static int leastRow(int[][][] hands, int[] best) {
         int[] row = new int[best.length];
         int least = -1;
         for (boolean more = true; more;) {
-            int sum = sumOf(x, bar, row);
+            int sum = sumOf(hands, row);
             if (least < 0 || sum < least) {
                 least = sum;
                 System.arraycopy(row, 0, best, 0, row.length);
             }
             int i = row.length - 1;
-            while (i >= 0 && ++row[i] == x.hands(i, bar)) {
+            while (i >= 0 && ++row[i] == hands[i].length) {
                 row[i--] = 0;
             }
             more = i >= 0;
@@ -60,7 +77,7 @@ public final class PlayingTest {
         ChordMover x = Checks.withSong(song);
         Checks.strings(x, pitches);
         int[] row = new int[x.count(0)];
-        Checks.due("sum of " + song, x.play(bar), leastRow(x, bar, row));
+        Checks.due("sum of " + song, x.play(bar), leastRow(handsOf(x, row.length, bar), row));
         for (int i = 0; i < row.length; i++) {
             Checks.due("hand " + i + " of " + song, x.played(i), row[i]);
         }
@@ -131,7 +148,7 @@ public final class PlayingTest {
         Checks.due("easiest", x.easiest(), best);
         Checks.due("it is played", x.played(-1), best);
         int[] row = {x.played(0), x.played(1), x.played(2)};
-        Checks.due("with its hands", sumOf(x, best, row), least);
+        Checks.due("with its hands", sumOf(handsOf(x, 3, best), row), least);
         ChordMover y = Checks.withSong("[G]");
         Checks.strings(y, 0, 4, 7);
         Checks.due("all open", y.easiest(), 7);
@@ -162,7 +179,7 @@ public final class PlayingTest {
         for (int i = 0; i < 60; i++) {
             row[i] = x.played(i);
         }
-        Checks.due("the sum of its hands", sumOf(x, bar, row), x.play(bar));
+        Checks.due("the sum of its hands", sumOf(handsOf(x, 6, bar), row), x.play(bar));
         Checks.due("no 61st chord", x.played(60), -1);
         Checks.due("move", x.move(2), 2);
         Checks.due("the last chord", x.chord(59, 0), 6);

